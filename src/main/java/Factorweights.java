@@ -577,8 +577,9 @@ public final class Factorweights {
     }
 
     private boolean isApart(Natural one, Natural other) {
-        Natural greater = one.order(other) > 0 ? one : other;
-        Natural lesser = greater == one ? other : one;
+        boolean isGreater = one.order(other) > 0;
+        Natural greater = isGreater ? one : other;
+        Natural lesser = isGreater ? other : one;
         gap.copy(greater);
         gap.subtract(lesser);
         gap.multiply(HALF_OF_APART);
