@@ -1,3 +1,4 @@
+import java.math.BigInteger;
 import java.util.ArrayList;
 import java.util.Arrays;
 import java.util.List;
@@ -14,6 +15,15 @@ final class ApartTest {
     private static final int MORE = 5;
     private static final int DRAWN = 60;
 
+    /** How many binary digits the program takes from one another at once. */
+    private static final int TAKEN_AT_ONCE = 30;
+    /** FACTORS of two PRODUCTS, those of the lesser one first. Such pairs are rare: these were looked for by a script. */
+    private static final int[][][] ENDS_DIFFER_BY_ONE = {
+        {{6615, 15067, 6767, 1223, 8369, 10957}, {65536, 65536, 14175, 37297, 33311}},
+        {{16317, 83, 4943, 6977, 49477, 54469}, {65536, 65536, 2478, 109, 6197, 17509}},
+        {{33957, 6149, 151, 2269, 3769, 44867}, {65536, 32768, 8595, 251, 907, 2879}},
+    };
+
     private ApartTest() {
     }
 
@@ -26,6 +36,9 @@ final class ApartTest {
         }
         for (int twos = 46; twos <= 60; twos++) {
             binaryDigitsAroundTheBound(twos);
+        }
+        for (int[][] pair : ENDS_DIFFER_BY_ONE) {
+            orderWhereEndsDifferByOne(pair[0], pair[1]);
         }
         Check.end();
     }
@@ -113,6 +126,29 @@ final class ApartTest {
             Check.due(call + ", turned, KIND " + kind, on.heapOrder(1, 0, kind == 1), isApart ? 1 : -9);
         }
         Check.due(call + ": what was not told", on.house(3), isApart ? 0 : 4);
+    }
+
+    /**
+     * The last digits of the lesser PRODUCT are by just 1 above those of the greater one. If that 1 is not borrowed
+     * from the digits ahead, the difference grows by so much that both seem to be APART.
+     */
+    private static void orderWhereEndsDifferByOne(int[] one, int[] other) {
+        BigInteger lesser = productOf(one);
+        BigInteger gap = productOf(other).subtract(lesser);
+        BigInteger unborrowed = gap.add(BigInteger.ONE.shiftLeft(TAKEN_AT_ONCE));
+        String pair = lesser + " and " + gap + " more";
+        Check.due("48: the ends of " + pair, unborrowed.add(BigInteger.ONE).getLowestSetBit() >= TAKEN_AT_ONCE, true);
+        Check.due("48: APART by so much, " + pair, gap.shiftLeft(40).compareTo(lesser) > 0, false);
+        Check.due("48: APART by more, " + pair, unborrowed.shiftLeft(40).compareTo(lesser) > 0, true);
+        dueOrder("48: " + pair, Given.heaps(one, other), false);
+    }
+
+    private static BigInteger productOf(int[] factors) {
+        BigInteger product = BigInteger.ONE;
+        for (int factor : factors) {
+            product = product.multiply(BigInteger.valueOf(factor));
+        }
+        return product;
     }
 
     private static void digitsAroundTheBound(int tens) {
